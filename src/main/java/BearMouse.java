@@ -383,7 +383,7 @@ public final class BearMouse {
         if (!isUpTo(n, MOST_SEEN_MINUTES)) {
             return BAD;
         }
-        return now.seen.append(walker, n, can);
+        return now.seen.append(walker, n, can ? 1 : 0);
     }
 
     public int heft(int walker, int what) {
@@ -470,7 +470,7 @@ public final class BearMouse {
         if (!isBelow(what, 3) || what != 0 && !isBelow(n, CELLS)) {
             return NONE;
         }
-        return now.afternoon.append(what, n, false);
+        return now.afternoon.append(what, n, 0);
     }
 
     public int ends(int what) {
@@ -501,7 +501,7 @@ public final class BearMouse {
         if (!isBelow(strength, STRENGTHS)) {
             return BAD;
         }
-        return now.book.append(cell, strength, false);
+        return now.book.append(cell, strength, 0);
     }
 
     public int looked() {
@@ -758,7 +758,7 @@ public final class BearMouse {
     private boolean isSeenSo(int row, int guessed) {
         int number = now.seen.first[row];
         Walker one = number == guessed ? guess : now.walkers[number];
-        boolean crosses = one.crossing(asked, now.held.spoon) >= 0;
+        int crosses = one.crossing(asked, now.held.spoon) >= 0 ? 1 : 0;
         return crosses == now.seen.third[row];
     }
 
@@ -885,14 +885,14 @@ public final class BearMouse {
         private final int limit;
         private final int[] first;
         private final int[] second;
-        private final boolean[] third;
+        private final int[] third;
         private int size;
 
         private Rows(int limit) {
             this.limit = limit;
             first = new int[limit];
             second = new int[limit];
-            third = new boolean[limit];
+            third = new int[limit];
         }
 
         private int empty() {
@@ -900,7 +900,7 @@ public final class BearMouse {
             return 0;
         }
 
-        private int append(int a, int b, boolean c) {
+        private int append(int a, int b, int c) {
             if (size >= limit) {
                 return FULL;
             }
@@ -938,10 +938,10 @@ public final class BearMouse {
 
         private void copy(Scene other) {
             cup.become(other.cup);
-            for (int i = 0; i < WALKERS; i++) {
+            walking = other.walking;
+            for (int i = 0; i < walking; i++) {
                 walkers[i].copy(other.walkers[i]);
             }
-            walking = other.walking;
             prints = other.prints;
             seen.copy(other.seen);
             afternoon.copy(other.afternoon);

@@ -5,6 +5,7 @@ public final class BrewsTest {
     public static void main(String[] args) {
         feed();
         faults();
+        faultsBehindOthers();
         whole();
         tests();
         numbersOfBrews();
@@ -103,6 +104,23 @@ public final class BrewsTest {
         fault(";milk 1", 0);
         fault("milk 0;milk 1;milk 2;milk 3;milk 4;milk 5;milk 6;milk 7;milk 8;milk 9;", 69);
         fault("milk 0;milk 1;milk 2;milk 3;milk 4;milk 5;milk 6;milk 7;milk 8;milk 9;milk 1", 69);
+    }
+
+    /** What an earlier text left behind is not read again. */
+    private static void faultsBehindOthers() {
+        BearMouse x = new BearMouse();
+        due.is("behind nothing", Due.brew(x, "thick 1 c=1?"), -21);
+        due.is("too early", Due.brew(x, "thick 1 "), -18);
+        due.is("too early again", Due.brew(x, "thick 1 c"), -19);
+        due.is("too early once more", Due.brew(x, "thick 1 c="), -20);
+        due.is("behind faults", Due.brew(x, "thick 1 c=1"), 0);
+        due.is("too early behind a whole one", Due.brew(x, "thick "), -16);
+        Due.feed(x, "thick 1 ");
+        for (int i = 0; i < 23; i++) {
+            Due.feed(x, "c=0|");
+        }
+        due.is("100 signs", x.count(5), 100);
+        due.is("too early at 100", x.brew(), -110);
     }
 
     private static void grows(String text, int... want) {

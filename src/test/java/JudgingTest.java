@@ -109,6 +109,8 @@ public final class JudgingTest {
     private static void spoil(BearMouse x) {
         Due.brew(x, "milk 3;thick 9 c=9");
         x.walker(1, 9, 9);
+        x.walker(6, 9, 9);
+        x.line(3, 1, 8);
         x.weigh(0, 0);
         x.line(0, 1, 0);
         x.line(0, 0, 9);
@@ -143,6 +145,8 @@ public final class JudgingTest {
         due.is("undo: THE TRACE's first", x.trace(0), 20);
         due.is("undo: the next WALKER", x.walker(6, 0, 10), 2);
         due.is("undo: its LINE is its own", x.line(2, 1, 1), 0);
+        due.is("undo: the one behind it", x.walker(6, 0, 10), 3);
+        due.is("undo: its LINE is its own, too", x.line(3, 1, 1), 0);
         x.weigh(0, 1);
         x.line(0, 1, 9);
         x.see(1, true, 0);

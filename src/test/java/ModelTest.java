@@ -1,6 +1,6 @@
 /** Runs of calls, the same ones each time, on BearMouse and on the Model: every answer is compared. */
 public final class ModelTest {
-    private static final int RUNS = 260;
+    private static final int RUNS = 100;
     private static final int CALLS = 512;
     private static final int[] EDGES = {
         Integer.MIN_VALUE, Integer.MIN_VALUE + 1, -100, -3, -2, -1, 0, 1, 2, 3, 4, 5, 6, 7, 8, 9, 10, 15, 16, 19, 20, 21,
@@ -35,7 +35,7 @@ public final class ModelTest {
     /** BREWS alone: many texts, whole ones and broken ones. */
     private static void texts(Due due) {
         ModelTest t = new ModelTest(due, 100000);
-        for (int k = 0; k < 6000; k++) {
+        for (int k = 0; k < 4000; k++) {
             BearMouse x = new BearMouse();
             Model m = new Model();
             String text = t.text();

@@ -32,6 +32,11 @@ public final class TapesTest {
         due.is("tape: all 0", x.read(0, 59), 0);
         due.is("tape(0, -1, 61)", x.tape(0, -1, 61), 1);
         due.is("tape: nothing", x.item(0, 0, 1), -11);
+        due.is("tape: nothing to read", x.read(0, 0), Long.MIN_VALUE);
+        x.tape(0, 2, 1);
+        x.item(0, 0, 5);
+        x.tape(0, 1, 1);
+        due.is("tape: the first is 0, too", x.read(0, 0), 0);
         due.is("tape(5, -1, -9)", x.tape(5, -1, -9), 1);
     }
 
@@ -110,6 +115,9 @@ public final class TapesTest {
         due.is("shift: none, at the ends", x.shift(0, 6, 1, 4, 0), 0);
         due.is("shift: all", x.shift(1, 0, 0, 0, 4), 4);
         row(x, 0, 0, 4, 5, 6, 5, 6);
+        due.is("shift: as many as there are", x.shift(0, 0, 0, 0, 6), 6);
+        due.is("shift: as many as there is room for", x.shift(0, 2, 1, 0, 4), 4);
+        row(x, 1, 5, 6, 5, 6);
     }
 
     private static void refusals() {

@@ -71,11 +71,34 @@ public final class WaysTest {
         due.is("reach: on one that does not bear", x.reach(0, 9, 9), -5);
         due.is("reach: leaping over it", x.reach(1, 8, 10), 1);
         due.is("reach: around it", x.reach(0, 8, 10), 4);
+        for (int from = 0; from < 16; from++) {
+            steps(from);
+        }
         due.is("reach: walker 2", x.reach(2, 0, 0), -1);
         due.is("reach: from 16", x.reach(0, 16, 0), -1);
         due.is("reach: to -1", x.reach(0, 0, -1), -1);
         due.is("reach: from -1", x.reach(0, -1, 0), -1);
         due.is("reach: to 16", x.reach(0, 0, 16), -1);
+    }
+
+    /** From one CELL to each other one, where these two alone BEAR anyone. */
+    private static void steps(int from) {
+        BearMouse x = new BearMouse();
+        x.walker(0, 0, 10);
+        x.walker(1, 0, 10);
+        x.set(from, 10);
+        for (int to = 0; to < 16; to++) {
+            if (to != from) {
+                x.set(to, 10);
+                int rows = Math.abs(to / 4 - from / 4);
+                int columns = Math.abs(to % 4 - from % 4);
+                boolean straight = rows == 0 || columns == 0;
+                String call = "reach(.., " + from + ", " + to + ")";
+                due.is(call + " by WALKER", x.reach(0, from, to), straight && rows + columns == 1 ? 1 : -5);
+                due.is(call + " by SHREW", x.reach(1, from, to), straight && rows + columns <= 2 ? 1 : -5);
+                x.set(to, 0);
+            }
+        }
     }
 
     private static void heaviest() {
@@ -132,6 +155,10 @@ public final class WaysTest {
         cuts(x, 0, -5, -5);
         x.set(5, 0);
         cuts(x, 0, 3, 0x1101);
+        Due.fillAll(x, 10);
+        x.set(0, 0);
+        cuts(x, 0, 3, 0x1110);
+        x.set(0, 10);
         due.is("cut: what 2", x.cut(0, 2), -1);
         due.is("cut: what -1", x.cut(0, -1), -1);
         due.is("cut: walker 3", x.cut(3, 0), -1);
@@ -150,6 +177,8 @@ public final class WaysTest {
         due.is("stirred: the first of several", x.stirred(0), 4);
         Due.fill(x, 10, 0, 10, 10, 0, 10, 0, 0, 0, 10, 10, 10);
         due.is("stirred: the least, not the first that helps", x.stirred(0), 105);
+        Due.fill(x, 10, 10, 0, 0, 0, 0, 10, 0, 0, 10, 10, 10);
+        due.is("stirred: of several with one lesser, the first greater", x.stirred(0), 506);
         Due.fill(x, 10, 10, 10, 10);
         due.is("stirred: no better than 3", x.stirred(0), -5);
         Due.fillAll(x, 0);
