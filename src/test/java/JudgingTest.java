@@ -64,6 +64,13 @@ public final class JudgingTest {
         due.is("undo: two", x.undo(), 2);
         due.is("undo: two again", x.undo(), 2);
         due.is("undo: two are there", x.count(0), 2);
+        for (int i = 2; i < 5; i++) {
+            x.walker(0, 0, 0);
+        }
+        due.is("image: five", x.image(), 5);
+        x.weigh(4, 77);
+        due.is("undo: five", x.undo(), 5);
+        due.is("undo: the fifth", x.of(4, 2), 0);
     }
 
     private static BearMouse rich() {
@@ -110,7 +117,9 @@ public final class JudgingTest {
         Due.brew(x, "milk 3;thick 9 c=9");
         x.walker(1, 9, 9);
         x.walker(6, 9, 9);
-        x.line(3, 1, 8);
+        for (int row = 0; row < 4; row++) {
+            x.line(3, row, 8);
+        }
         x.weigh(0, 0);
         x.line(0, 1, 0);
         x.line(0, 0, 9);
@@ -146,7 +155,9 @@ public final class JudgingTest {
         due.is("undo: the next WALKER", x.walker(6, 0, 10), 2);
         due.is("undo: its LINE is its own", x.line(2, 1, 1), 0);
         due.is("undo: the one behind it", x.walker(6, 0, 10), 3);
-        due.is("undo: its LINE is its own, too", x.line(3, 1, 1), 0);
+        for (int row = 0; row < 4; row++) {
+            due.is("undo: its LINE is its own at ROW " + row, x.line(3, row, 1), 0);
+        }
         x.weigh(0, 1);
         x.line(0, 1, 9);
         x.see(1, true, 0);
