@@ -151,6 +151,9 @@ public final class WayEdgesTest {
         wayIs(on(0, 1, 2, 8, 9, 10, 11), 0, 8, 9, 10, 11);
         wayIs(on(8, 9, 10, 11, 5, 6, 7), 0, 8, 9, 10, 11);
         wayIs(on(0, 4, 8, 12, 5, 9, 13, 6, 7), 0, 4, 5, 6, 7);
+        // A CELL that is as near the far side, and comes first, but is a LEAP apart, is not on a WALKER's WAY.
+        wayIs(on(8, 9, 10, 2, 3, 6, 7), 0, 8, 9, 10, 6, 7);
+        wayIs(on(8, 9, 1, 2, 3, 5, 6, 7), 0, 8, 9, 5, 6, 7);
     }
 
     private static void reachFewest() {
